@@ -316,9 +316,15 @@ public final class CombedOut {
         if (knots < 1) {
             throw new NoSuchElementException("no knots");
         }
-        int holds = state.allHolds(quarter, p);
-        int common = commonDivisor(holds, knots);
-        return (what == 0 ? holds : knots) / common;
+        int above = state.allHolds(quarter, p);
+        int below = knots;
+        for (int d = knots; d > 1; d--) {
+            if (above % d == 0 && below % d == 0) {
+                above /= d;
+                below /= d;
+            }
+        }
+        return what == 0 ? above : below;
     }
 
     public int tag(int p) {
@@ -458,15 +464,6 @@ public final class CombedOut {
 
     private boolean isBed(int b) {
         return b >= 0 && b < quarter.beds;
-    }
-
-    private static int commonDivisor(int a, int b) {
-        for (int d = b; d > 1; d--) {
-            if (a % d == 0 && b % d == 0) {
-                return d;
-            }
-        }
-        return 1;
     }
 
     /** The words of the three grammars: none of them may be a NAME. */
@@ -679,6 +676,7 @@ public final class CombedOut {
         private final long[] bedNames = new long[MOST_BEDS];
         private final int[] needs = new int[MOST_BEDS];
         private int comb = PLAIN_COMB;
+        // Of a reading under way alone.
         private boolean combTold;
 
         void copyFrom(Quarter other) {
@@ -697,7 +695,6 @@ public final class CombedOut {
             System.arraycopy(other.bedNames, 0, bedNames, 0, MOST_BEDS);
             System.arraycopy(other.needs, 0, needs, 0, MOST_BEDS);
             comb = other.comb;
-            combTold = other.combTold;
         }
 
         /** How many LINES there are; what is caught ahead of the first day goes into start. */
@@ -943,14 +940,11 @@ public final class CombedOut {
         /** How many things the KNOT has of which the outside one lies right below top; 0, if none does. */
         int knotBelow(int p, int top) {
             int size = 0;
-            while (size < top && layerAt(p, top - 1 - size) == layerAt(p, top - 1)) {
+            int outside = p * NEST + top - 1;
+            while (size < top && top <= heights[p] && rows[outside - size] == rows[outside]) {
                 size++;
             }
             return size;
-        }
-
-        int outsideKnot(int p) {
-            return knotBelow(p, heights[p]);
         }
 
         int knotsOf(int p) {
@@ -969,7 +963,7 @@ public final class CombedOut {
         }
 
         int outsideHolds(Quarter q, int p) {
-            return outsideKnot(p) * holdAt(q, p, heights[p] - 1);
+            return knotBelow(p, heights[p]) * holdAt(q, p, heights[p] - 1);
         }
 
         int allHolds(Quarter q, int p) {
@@ -1083,7 +1077,7 @@ public final class CombedOut {
         }
 
         private void putOutsideKnotIntoBag(int p) {
-            int size = outsideKnot(p);
+            int size = knotBelow(p, heights[p]);
             int t = layerFromOutside(p, 0);
             if (t < 0 || t >= MOST_THINGS) {
                 return;
@@ -1100,7 +1094,7 @@ public final class CombedOut {
         }
 
         void cutOff(int p) {
-            int size = outsideKnot(p);
+            int size = knotBelow(p, heights[p]);
             heights[p] -= size;
             lost += size;
             cuts++;
@@ -1253,6 +1247,7 @@ public final class CombedOut {
         private final int[] filled = new int[1 << BAG_ROOM];
         private final int[] bagSprings = new int[BAG_ROOM];
         private int bagSize;
+        private int bagSpring;
         private final int[] missing = new int[MOST_BEDS];
         private final int[] costs = new int[MOST_PERSONS];
 
@@ -1352,9 +1347,11 @@ public final class CombedOut {
 
         private void listBag(Quarter q, State s) {
             bagSize = 0;
+            bagSpring = 0;
             for (int t = 0; t < q.things; t++) {
                 for (int i = 0; i < s.bag[t] && bagSize < BAG_ROOM; i++) {
                     bagSprings[bagSize] = q.springs[t];
+                    bagSpring += q.springs[t];
                     bagSize++;
                 }
             }
@@ -1362,12 +1359,19 @@ public final class CombedOut {
 
         private boolean canFill(Quarter q, State s, int which) {
             int wanted = 0;
+            int missingInAll = 0;
             for (int b = 0; b < q.beds; b++) {
                 if ((which >> b & 1) == 1 && !s.sleeps(q, b)) {
                     missing[wanted] = q.needs[b] - s.springs[b];
+                    missingInAll += missing[wanted];
                     wanted++;
                 }
             }
+            // Spares the long search where nothing could come of it.
+            return missingInAll <= bagSpring && mostFilled(wanted) >= wanted;
+        }
+
+        private int mostFilled(int wanted) {
             filled[0] = 0;
             int all = (1 << bagSize) - 1;
             for (int things = 1; things <= all; things++) {
@@ -1379,7 +1383,7 @@ public final class CombedOut {
                 }
                 filled[things] = most;
             }
-            return filled[all] >> FILL_BITS >= wanted;
+            return filled[all] >> FILL_BITS;
         }
 
         private int fillOn(int soFar, int spring, int wanted) {

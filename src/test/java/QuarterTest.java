@@ -11,6 +11,7 @@ public final class QuarterTest {
         faultsOfLength();
         aFaultLeavesAll();
         aNewOneIsFresh();
+        nothingIsLeftOfTrials();
         Check.finish();
     }
 
@@ -192,5 +193,25 @@ public final class QuarterTest {
         Check.due("said(-1)", x.said(-1), -1);
         Check.due("comb", x.count(4), 9);
         Check.due("undo()", x.undo(), -1);
+    }
+
+    private static void nothingIsLeftOfTrials() {
+        String text = "thing t 1 3;person p 9;bed b 3;caught p t;caught p t;";
+        CombedOut x = Check.of(text);
+        Check.book(x, 0, "p stroke 2;stuff b t;p catches t;p cut;p catches t;day 7;p stroke 1;");
+        x.odds(0, 30, 1);
+        Check.book(x, 0, "p stroke 2;stuff b t;p catches t;p cut;p catches t;day 7;p stroke 1;");
+        Check.quarter(x, "oh");
+        Check.book(x, 0, "p stroke 2;stuff b t;p catches t;p cut;p catches t;day 7;p stroke 1;");
+        Check.quarter(x, text);
+        for (int what = 0; what <= 6; what++) {
+            Check.due("behind trials: now(" + what + ")", x.now(what), 0);
+        }
+        Check.due("PAIN", Check.person(x, 0, 1), 0);
+        Check.due("things in his hair", Check.person(x, 0, 2), 2);
+        Check.due("bag", x.thing(0, 2), 0);
+        Check.due("STILL", x.thing(0, 4), 2);
+        Check.due("SPRING", x.bed(0, 1), 0);
+        Check.due("things in the bed", x.bed(0, 3), 0);
     }
 }
