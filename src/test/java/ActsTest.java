@@ -51,6 +51,13 @@ public final class ActsTest {
         Check.due("all at once", y.stroke(0, 20), 0);
         Check.due("bare", Check.row(y, 0), "");
         Check.due("PAIN of it all", Check.person(y, 0, 1), 20);
+        CombedOut w = Check.of("thing a 1 1;thing b 1 1;person p 99;comb 20;" + "caught p a;caught p b;".repeat(4));
+        Check.due("eight knots by one stroke", w.stroke(0, 8), 0);
+        Check.due("bare of them", Check.row(w, 0), "");
+        Check.due("all eight in the bag", w.now(1), 8);
+        Check.due("undone", w.undo(), 0);
+        w.stroke(0, 7);
+        Check.due("seven by one of 7", Check.row(w, 0), "0");
         // A KNOT comes out whole or not at all.
         CombedOut z = Check.of("thing a 1 1;thing b 2 1;person p 99;caught p a;caught p b;caught p b;caught p a;comb 20;");
         z.stroke(0, 4);

@@ -38,12 +38,12 @@ final class Check {
         }
     }
 
-    /** Puts just these bytes on an empty tape. */
+    /** Puts just these bytes on an empty tape; what end() takes off is no THING and would spoil a text. */
     static void feed(CombedOut x, int... bytes) {
         for (int at = 0; at < bytes.length; at += 20) {
             int[] n = new int[5];
             for (int i = 0; i < 20; i++) {
-                int b = at + i < bytes.length ? bytes[at + i] : 0;
+                int b = at + i < bytes.length ? bytes[at + i] : 'x';
                 n[i / 4] = n[i / 4] << 8 | b;
             }
             x.feed(n[0], n[1], n[2], n[3], n[4]);
