@@ -1248,6 +1248,8 @@ public final class CombedOut {
         private final int[] bagSprings = new int[BAG_ROOM];
         private int bagSize;
         private int bagSpring;
+        // As bits: things of the bag like the one ahead of them.
+        private int bagLike;
         private final int[] missing = new int[MOST_BEDS];
         private final int[] costs = new int[MOST_PERSONS];
 
@@ -1348,10 +1350,12 @@ public final class CombedOut {
         private void listBag(Quarter q, State s) {
             bagSize = 0;
             bagSpring = 0;
+            bagLike = 0;
             for (int t = 0; t < q.things; t++) {
                 for (int i = 0; i < s.bag[t] && bagSize < BAG_ROOM; i++) {
                     bagSprings[bagSize] = q.springs[t];
                     bagSpring += q.springs[t];
+                    bagLike |= i > 0 ? 1 << bagSize : 0;
                     bagSize++;
                 }
             }
@@ -1375,15 +1379,27 @@ public final class CombedOut {
             filled[0] = 0;
             int all = (1 << bagSize) - 1;
             for (int things = 1; things <= all; things++) {
-                int most = 0;
-                for (int i = 0; i < bagSize; i++) {
-                    if ((things >> i & 1) == 1) {
-                        most = Math.max(most, fillOn(filled[things & ~(1 << i)], bagSprings[i], wanted));
-                    }
+                if (takesFirstOfLikeOnes(things)) {
+                    filled[things] = bestFill(things, wanted);
                 }
-                filled[things] = most;
             }
             return filled[all] >> FILL_BITS;
+        }
+
+        /** Of like things it does not matter which are taken, so that all other ways are left out. */
+        private boolean takesFirstOfLikeOnes(int things) {
+            return (things & bagLike & ~(things << 1)) == 0;
+        }
+
+        private int bestFill(int things, int wanted) {
+            int most = 0;
+            for (int i = 0; i < bagSize; i++) {
+                int others = things & ~(1 << i);
+                if (others != things && takesFirstOfLikeOnes(others)) {
+                    most = Math.max(most, fillOn(filled[others], bagSprings[i], wanted));
+                }
+            }
+            return most;
         }
 
         private int fillOn(int soFar, int spring, int wanted) {

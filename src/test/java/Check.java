@@ -7,15 +7,21 @@ final class Check {
 
     private static int done = 0;
     private static int wrong = 0;
+    private static String sentence = "";
 
     private Check() {
+    }
+
+    /** The document's sentence that the next answers are held against, told with each that is not as due. */
+    static void says(String words) {
+        sentence = "[" + words + "] ";
     }
 
     static void due(String call, long got, long want) {
         done++;
         if (got != want) {
             wrong++;
-            System.out.println(call + " answered " + got + ", due is " + want);
+            System.out.println(sentence + call + " answered " + got + ", due is " + want);
         }
     }
 
@@ -27,7 +33,7 @@ final class Check {
         done++;
         if (!got.equals(want)) {
             wrong++;
-            System.out.println(call + " answered '" + got + "', due is '" + want + "'");
+            System.out.println(sentence + call + " answered '" + got + "', due is '" + want + "'");
         }
     }
 
@@ -73,6 +79,36 @@ final class Check {
     static int fits(CombedOut x, int... things) {
         feed(x, things);
         return x.fits();
+    }
+
+    /** A QUARTER that is fine, or has a FAULT: told as kind and place ("2 at 8"), or as how many LINES. */
+    static String quarterTold(String text) {
+        CombedOut x = new CombedOut();
+        int answer = quarter(x, text);
+        return answer >= 0 ? answer + " LINES" : x.fault() + " at " + (-1 - answer);
+    }
+
+    /** The same of a BOOK that is judged: "fine", or "line n" for one that is WRONG. */
+    static String bookTold(String quarter, String text) {
+        CombedOut x = of(quarter);
+        int answer = book(x, 0, text);
+        return answer == -1 ? "fine" : answer >= 0 ? "line " + answer : x.fault() + " at " + (-2 - answer);
+    }
+
+    /** The same of a SENTENCE: how many ONES, if it is fine. */
+    static String sentenceTold(String quarter, String text) {
+        CombedOut x = of(quarter);
+        int answer = sentence(x, text);
+        return answer >= 0 ? answer + " ONES" : x.fault() + " at " + (-1 - answer);
+    }
+
+    /** Of whom the SENTENCE is said, as digits. */
+    static String saidOf(CombedOut x) {
+        StringBuilder text = new StringBuilder();
+        for (int k = 0; k < x.said(-1); k++) {
+            text.append(x.said(k));
+        }
+        return text.toString();
     }
 
     static CombedOut of(String quarter) {
