@@ -154,6 +154,12 @@ public final class ActEdgesTest {
             Check.due("stroke of " + force[i] + " at " + rows[i], x.stroke(0, force[i]), 0);
             Check.due(rows[i] + " by " + force[i], Check.row(x, 0), left[i]);
         }
+        CombedOut w = hair("abababab");
+        w.stroke(0, 12);
+        Check.due("eight KNOTS of 12 by 12", Check.row(w, 0), "");
+        w.undo();
+        w.stroke(0, 11);
+        Check.due("eight KNOTS of 12 by 11", Check.row(w, 0), "0");
         // One that holds too much keeps what lies below, though that holds less.
         CombedOut y = Check.of("thing a 1 1;thing c 9 1;person p 99;comb 20;caught p a;caught p c;caught p a;");
         y.stroke(0, 9);

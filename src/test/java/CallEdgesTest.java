@@ -38,6 +38,7 @@ public final class CallEdgesTest {
         restoreAll();
         restoreStays();
         counts();
+        asFullAsCanBe();
         refusedCallsChangeNothing();
         askingChangesNothing();
         Check.finish();
@@ -189,7 +190,13 @@ public final class CallEdgesTest {
         x.cut(1);
         x.snag(0, 1);
         Check.sentence(x, "has b");
+        // Neither what was judged nor what was told with a FAULT comes into a new one.
+        Check.book(x, 0, "p catches a;p stroke 8;stuff x a;day 1;p catches a;p catches b;p stroke 2;p cut;");
+        Check.quarter(x, "thing z 1 1;person m 9;person n 9;daily n z 1;bed k 1;bed l 1;caught n z;oh");
+        Check.book(x, 0, "p catches a;p stroke 8;stuff x a;day 1;p catches a;p catches b;p stroke 2;p cut;");
+        Check.due("that BOOK is lived through", x.told(0), 0);
         Check.due("LINES", Check.quarter(x, QUARTER), 13);
+        Check.due("'daily'", x.count(2), 1);
         Check.due("DAY", x.now(0), 0);
         Check.due("the bag", x.now(1), 0);
         Check.due("a in the bag", x.thing(0, 2), 0);
@@ -198,6 +205,7 @@ public final class CallEdgesTest {
         Check.due("nobody sleeps", x.now(2), 0);
         Check.due("PAIN", Check.person(x, 0, 1), 0);
         Check.due("no SENTENCE", x.said(-1), -1);
+        Check.due("STROKES, CUTS, lost things", x.now(4) + x.now(5) + x.now(6), 0);
         Check.due("rows as told", Check.row(x, 0) + " " + Check.row(x, 1), "0110 1");
         Check.due("STILL", x.thing(0, 4), 2);
         Check.due("an empty text", Check.quarter(x, ""), 0);
@@ -308,6 +316,8 @@ public final class CallEdgesTest {
         }
         CombedOut y = Check.of("thing a 1 1;person p 1;person q 1;person r 1;person s 1;person t 1;person u 1;caught u a;caught p a;");
         Check.due("the first and the last", y.thing(0, 3), 33);
+        y.cut(0);
+        Check.due("the last alone", y.thing(0, 3), 32);
     }
 
     private static void bedWhat() {
@@ -676,6 +686,53 @@ public final class CallEdgesTest {
         for (int far : FAR) {
             Check.due("count(" + far + ")", x.count(far), -1);
         }
+    }
+
+    private static void asFullAsCanBe() {
+        Check.says("8 THINGS, 6 PERSONS, 8 'caught' of each, 12 'daily' in all, 4 BEDS at most");
+        StringBuilder text = new StringBuilder("comb 20;bed v 18;bed w 18;bed x 27;bed y 27;");
+        for (int i = 0; i < 8; i++) {
+            text.append("thing ").append((char) ('a' + i)).append(" 1 9;");
+        }
+        for (int p = 0; p < 6; p++) {
+            text.append("person ").append((char) ('p' + p)).append(" 99;");
+            for (int i = 0; i < (p == 0 ? 7 : 8); i++) {
+                text.append("caught ").append((char) ('p' + p)).append(' ').append((char) ('a' + i)).append(';');
+            }
+        }
+        for (int i = 0; i < 12; i++) {
+            text.append("daily ").append((char) ('p' + i / 2)).append(" h ").append(i % 2 + 1).append(';');
+        }
+        CombedOut x = Check.of(text.toString());
+        Check.due("NESTS", x.now(3), 62);
+        Check.due("STILL", x.thing(7, 4), 5);
+        Check.due("PERSONS who have it", x.thing(7, 3), 62);
+        Check.due("days(1)", x.days(1), 1);
+        Check.due("NESTS then", x.now(3), 63);
+        Check.due("all alike", x.like(5), 31);
+        Check.due("fits()", Check.fits(x, 6, 7), 63);
+        Check.due("ask()", x.ask(), 0);
+        Check.due("HARDEST", x.hardest(), 0);
+        Check.due("EASE", x.ease(5), 1);
+        Check.due("round(47)", x.round(47), 5);
+        Check.due("rounded()", x.rounded(), 31);
+        Check.due("stroke(5, 8)", x.stroke(5, 8), 0);
+        Check.due("stroke(0, 20)", x.stroke(0, 20), 0);
+        Check.due("the bag", x.now(1), 10);
+        Check.due("beds()", x.beds(), 4);
+        Check.due("bedded()", x.bedded(), 15);
+        Check.due("stuff(3, 7)", x.stuff(3, 7), 0);
+        Check.due("stuff(3, 7)", x.stuff(3, 7), 0);
+        Check.due("STILL then", x.thing(7, 4), 6);
+        Check.due("a sentence", Check.sentence(x, "has h and like t"), 2);
+        Check.due("said of four", x.said(-1), 4);
+        Check.due("odds()", x.odds(5, 30, 3) >= 0, true);
+        Check.due("drawn(60, 3)", x.drawn(60, 3), 60);
+        Check.due("nests()", x.nests(5) >= 0, true);
+        Check.due("undo()", x.undo(), 5);
+        Check.due("a BOOK", Check.book(x, 1, "u catches h;u cut;stuff y g;day 2;"), -1);
+        Check.due("caught on two DAYS", Check.row(x, 5), "777");
+        Check.due("TAG", Check.tag(x, 5), "u h3");
     }
 
     /** An object of which everything that can be told tells something, with two acts that can be undone. */

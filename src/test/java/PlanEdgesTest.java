@@ -21,6 +21,7 @@ public final class PlanEdgesTest {
         roundedLatest();
         bedsMost();
         bedsSomeOrAll();
+        bedsAnew();
         bedsThoseOnWhichOneDoes();
         bedsLeastBits();
         beddedLatest();
@@ -141,7 +142,7 @@ public final class PlanEdgesTest {
         Check.due("8 times 9", x.nests(0), 72);
         CombedOut y = Check.of("thing a 1 1;person p 9;person q 9;daily p a 9;caught q a;");
         Check.due("by none told", y.nests(1), -1);
-        // A person catches on the 99th DAY from now, or on the 100th.
+        // By one 'daily' it is 72 DAYS at most: with none it is never, and no number between can come.
         for (int start = 0; start <= 9; start++) {
             Model m = new Model();
             String text = "thing a 1 1;person p 9;daily p a 9;";
@@ -153,7 +154,6 @@ public final class PlanEdgesTest {
             }
             Check.due("from " + start, z.nests(0), m.nests(0));
         }
-        // It can be no later than 80 DAYS by one 'daily': eight times 9, and 8 ahead of them.
         CombedOut w = Check.of("thing a 1 1;person p 9;daily p a 9;");
         w.days(9);
         w.cut(0);
@@ -312,6 +312,13 @@ public final class PlanEdgesTest {
         beds(bag(things, "bed v 1;bed w 1;", "dddd"), 0, 0);
         beds(bag(things, "bed v 5;bed w 4;bed x 3;bed y 3;", "abcc"), 4, 15);
         beds(bag(things, "bed v 12;bed w 12;bed x 12;bed y 3;", "aaaaaaabcd"), 3, 7);
+        // The spring is enough in all, but not as it is shared out: 5 5 2 by 6 and 6.
+        String others = "thing d 1 0;thing a 1 5;thing c 1 2;thing e 1 1;thing f 1 4;";
+        beds(bag(others, "bed v 6;bed w 6;", "aac"), 1, 1);
+        beds(bag(others, "bed v 6;bed w 6;", "daac"), 1, 1);
+        beds(bag(others, "bed v 6;bed w 6;", "aace"), 2, 3);
+        beds(bag(others, "bed v 4;bed w 10;", "aaf"), 2, 3);
+        beds(bag(others, "bed v 10;bed w 4;", "aaf"), 2, 3);
         beds(bag("thing a 1 9;", "bed v 18;bed w 18;bed x 27;bed y 27;", "aaaaaaaaaa"), 4, 15);
         beds(bag("thing a 1 9;", "bed v 19;bed w 18;bed x 27;bed y 27;", "aaaaaaaaaa"), 3, 7);
         beds(bag("thing a 1 9;", "bed v 90;", "aaaaaaaaaa"), 1, 1);
@@ -328,6 +335,19 @@ public final class PlanEdgesTest {
         Check.due("the bag stays", x.now(1), 3);
         Check.due("no SPRING comes", x.bed(0, 1), 0);
         beds(bag("thing a 1 5;", "bed v 5;bed w 5;bed x 6;", "aaaa"), 3, 7);
+    }
+
+    private static void bedsAnew() {
+        Check.says("the BAG, as it is now and not as it was by an earlier beds()");
+        String things = "thing a 1 5;thing c 1 2;thing e 1 1;thing f 1 4;";
+        CombedOut x = bag(things, "bed v 6;bed w 6;bed y 99;", "aace");
+        beds(x, 2, 3);
+        x.stuff(2, 2);
+        beds(x, 1, 1);
+        CombedOut y = bag(things, "bed v 4;bed w 5;bed y 99;", "aaf");
+        beds(y, 2, 3);
+        y.stuff(2, 0);
+        beds(y, 2, 3);
     }
 
     private static void bedsThoseOnWhichOneDoes() {
@@ -493,6 +513,11 @@ public final class PlanEdgesTest {
         int[] due = {4, 0, 1, 32, 0, 8};
         for (int p = 0; p < 6; p++) {
             Check.due("like(" + p + ")", x.like(p), due[p]);
+        }
+        CombedOut z = persons("aab", "bab", "aab", "aba", "aa", "aaba");
+        int[] ends = {4, 0, 1, 0, 0, 0};
+        for (int p = 0; p < 6; p++) {
+            Check.due("another crown, another end, another length: like(" + p + ")", z.like(p), ends[p]);
         }
         Check.says("each is LIKE himself");
         for (int p = 0; p < 6; p++) {
